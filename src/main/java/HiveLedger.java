@@ -135,16 +135,14 @@ public final class HiveLedger {
         if (!isIndex(yard, YARDS) || days < 0 || days > MOST_DAYS) {
             return refused(WRONG);
         }
-        int done = 0;
-        int fault = FINE;
-        while (done < days && fault == FINE) {
-            fault = liveDay(yard, from + done);
-            if (fault == FINE) {
-                done++;
+        for (int done = 0; done < days; done++) {
+            int fault = liveDay(yard, from + done);
+            if (fault != FINE) {
+                told(fault);
+                return done;
             }
         }
-        told(fault);
-        return done;
+        return answered(days);
     }
 
     public int meadow(int meadow, int beds, int cells) {
