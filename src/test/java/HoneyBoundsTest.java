@@ -21,6 +21,8 @@ public final class HoneyBoundsTest {
         productsAreRounded();
         quotientsAreRounded();
         restsHaveTheSignOfX();
+        restsOfMultiplesAreZero();
+        restsBesideMultiples();
         restsAreExact();
         restsOfTheGreatest();
         zerosHaveSigns();
@@ -167,6 +169,26 @@ public final class HoneyBoundsTest {
         turns(-3, REST, -3, -0f);
         turns(3, REST, -3, 0f);
         turns(1, REST, Due.MIN, 0.25f);
+    }
+
+    /** Where v goes into x without a rest, be it by doublings alone, nothing is left. */
+    private static void restsOfMultiplesAreZero() {
+        for (int v : new int[] {1, 3, -3, 5, 1000003}) {
+            for (int times : new int[] {1, 2, 3, 4, 7, 8, 9, 15, 16}) {
+                turns(v * times, REST, v, v < 0 ? -0f : 0f);
+                turns(-v * times, REST, v, v < 0 ? 0f : -0f);
+            }
+        }
+    }
+
+    /** .. and a quarter to either side of such a multiple. */
+    private static void restsBesideMultiples() {
+        for (int times : new int[] {1, 2, 3, 4, 7, 8, 9, 15, 16}) {
+            turns(5 * times + 1, REST, 5, 0.25f);
+            turns(5 * times - 1, REST, 5, 1f);
+            turns(-5 * times - 1, REST, 5, -0.25f);
+            turns(-5 * times + 1, REST, 5, -1f);
+        }
     }
 
     private static void restsAreExact() {
